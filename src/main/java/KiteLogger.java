@@ -612,7 +612,6 @@ public final class KiteLogger {
             boolean silent = beacon < 1;
             if (difference <= (silent ? SILENT_REACH : BEACON_REACH)) {
                 mode = LANDED;
-                distance = 0;
                 beacon = 0;
                 return 0;
             }

@@ -7,6 +7,7 @@ public final class ForecastTest {
         heightAfterSnapAndLanding();
         ticksToSnap();
         ticksToSnapBounds();
+        forecastsOfAPattern();
         lastTicks();
         safeHeight();
         nothingChanges();
@@ -90,6 +91,22 @@ public final class ForecastTest {
         Check.same("46: 100 ticks are no snap yet", 50, y.heightAfter(100));
     }
 
+    private static void forecastsOfAPattern() {
+        KiteLogger x = Check.station("kite 1 20 60;gusts 7 30 5 0 14 9;interval 1;");
+        Check.run(x, "wait 2;out 200;launch;");
+        // Winds 5 0 14 9 7 30: the loads 24 and 112 are above 20.
+        int[] heights = {10, 15, 9, 23, 32, 39, 0};
+        for (int i = 0; i < heights.length; i++) {
+            Check.same("46: after " + i, heights[i], x.heightAfter(i));
+        }
+        Check.same("47: the gust of 30 tears it", 6, x.ticksToSnap());
+        x.passTicks(4);
+        Check.same("46: later", 39, x.heightAfter(1));
+        Check.same("47: later", 2, x.ticksToSnap());
+        x.passTicks(2);
+        Check.same("16: it is torn", true, x.isFallen());
+    }
+
     private static void passTo(KiteLogger x, int tick) {
         for (int rest = tick - x.tick(); rest > 0; rest = tick - x.tick()) {
             x.passTicks(Math.min(rest, 60));
@@ -124,6 +141,7 @@ public final class ForecastTest {
     }
 
     private static void safeHeight() {
+        safe(399, "kite 1 1 100;gusts 0 0;interval 3;");
         safe(99, "kite 2 40 100;gusts 6 9 12 4 0 8;interval 3;");
         safe(99, "kite 2 36 100;gusts 12;interval 3;");
         safe(-1, "kite 2 35 100;gusts 1 12 2;interval 3;");

@@ -5,10 +5,12 @@ public final class HistoryTest {
     public static void main(String[] args) {
         writeLogger();
         outputByte();
+        zeroDigits();
         longOutput();
         undoableCount();
         undoOfEachChange();
         undoOfCounts();
+        undoOfWindsAndSamples();
         undoKeeps();
         undoAfterUndo();
         snapshot();
@@ -50,6 +52,16 @@ public final class HistoryTest {
         Check.same("59: the output changes in writeLogger only", "1@27,10 3@44,10", Check.output(x, length));
         Check.same("58: empty again", 0, x.writeLogger());
         Check.refuses("59: the output is replaced", Check.INDEX, () -> x.outputByte(0));
+    }
+
+    private static void zeroDigits() {
+        KiteLogger x = Check.station("kite 1 999 9999;gusts 10;interval 1;");
+        Check.run(x, "out 100;launch;wait 1;");
+        Check.same("58: tick 0", "0@20,10", Check.output(x, x.writeLogger()));
+        Check.run(x, "in 100;archive;repeat 4(repeat 4(wait 60;););wait 38;out 100;launch;wait 2;");
+        Check.same("58: ticks 999 and 1000", "999@20,10 1000@30,10", Check.output(x, x.writeLogger()));
+        Check.run(x, "in 100;archive;wait 8;out 100;launch;wait 20;in 100;archive;every 9;out 100;launch;wait 9;");
+        Check.same("58: height 100", "1037@100,10", Check.output(x, x.writeLogger()));
     }
 
     private static void longOutput() {
@@ -143,6 +155,45 @@ public final class HistoryTest {
         x.undo();
         Check.same("43: share", 0.0f, x.archivedShare());
         Check.same("15: flying", true, x.isFlying());
+    }
+
+    private static void undoOfWindsAndSamples() {
+        KiteLogger x = Check.station("kite 1 999 9999;gusts 11 12 13 14 15 16 17 18 19 20 9;interval 1;");
+        Check.run(x, "out 200;launch;wait 20;");
+        String before = windsAndSamples(x);
+        Check.same("61: the winds before", true, before.startsWith("13 15 16 17 18 19 20 21 "));
+        x.saveSnapshot();
+        Check.run(x, "wait 19;in 200;archive;out 30;launch;wait 7;");
+        x.undo();
+        Check.same("61: winds and samples", before, windsAndSamples(x));
+        Check.run(x, "wait 40;in 200;archive;out 20;launch;wait 3;");
+        x.restoreSnapshot();
+        Check.same("63: winds and samples", before, windsAndSamples(x));
+        Check.run(x, "in 200;archive;");
+        String archived = archivedSamples(x);
+        Check.run(x, "out 30;launch;wait 9;in 30;archive;");
+        x.undo();
+        Check.same("61: archived samples", archived, archivedSamples(x));
+        Check.same("61: as they were logged", before.substring(24), archived);
+    }
+
+    private static String windsAndSamples(KiteLogger x) {
+        StringBuilder text = new StringBuilder();
+        for (int i = 0; i < x.bufferSize(); i++) {
+            text.append(x.bufferedWind(i)).append(" ");
+        }
+        for (int i = 0; i < x.loggedCount(); i++) {
+            text.append(x.loggedTick(i) + "@" + x.loggedHeight(i) + "," + x.loggedGust(i) + " ");
+        }
+        return text.toString();
+    }
+
+    private static String archivedSamples(KiteLogger x) {
+        StringBuilder text = new StringBuilder();
+        for (int i = 0; i < x.archivedCount(); i++) {
+            text.append(x.archivedTick(i) + "@" + x.archivedHeight(i) + "," + x.archivedGust(i) + " ");
+        }
+        return text.toString();
     }
 
     private static void undoKeeps() {

@@ -10,6 +10,7 @@ public final class InputTest {
         loadStation();
         loadStationRefuses();
         loadStationForgets();
+        loadStationInTheAir();
         loadStationWithError();
         readableStations();
         stationErrors();
@@ -119,7 +120,8 @@ public final class InputTest {
         Check.run(x, "out 50;launch;wait 5;in 200;archive;out 50;launch;wait 3;in 200;out 50;launch;wait 2;");
         Check.same("3: before, the kite is fallen", true, x.isFallen());
         Check.same("3: before, there are samples", 9, x.archivedCount() + x.loggedCount());
-        x.search(0);
+        x.search(2200);
+        Check.same("3: before, the beacon lasts", 120, x.beaconTime());
         x.saveSnapshot();
         int written = x.writeLogger();
         Check.load(x, PLAIN);
@@ -136,6 +138,22 @@ public final class InputTest {
         Check.refuses("3: undo", Check.STATE, x::undo);
         Check.refuses("3: the snapshot is discarded", Check.STATE, x::restoreSnapshot);
         Check.same("59: the output stays", "5@20,10 6@30,10 7@40,10 8@20,10", Check.output(x, written));
+    }
+
+    private static void loadStationInTheAir() {
+        KiteLogger x = Check.station("kite 1 999 9999;gusts 10;interval 1;");
+        Check.run(x, "out 50;launch;wait 33;");
+        Check.same("3: before, samples are dropped", 3, x.droppedCount());
+        Check.load(x, PLAIN);
+        Check.same("3: isLanded", true, x.isLanded());
+        Check.same("3: height", 0, x.height());
+        Check.same("3: tether", 0, x.tether());
+        Check.same("3: flightTime", 0, x.flightTime());
+        Check.same("3: droppedCount", 0, x.droppedCount());
+        Check.same("3: launches", 0, x.launches());
+        Check.same("3: bufferedWind", -1, x.bufferedWind(0));
+        x.passTicks(5);
+        Check.same("3: the new kite stays on the ground", 0, x.height() + x.loggedCount() + x.bufferSize());
     }
 
     private static void loadStationWithError() {
@@ -187,6 +205,13 @@ public final class InputTest {
         station("kit 2 40 100;", 1, 0);
         station("kitee 2 40 100;", 1, 0);
         station("Kite 2 40 100;", 1, 0);
+        station("xite 2 40 100;", 1, 0);
+        station("kitez 2 40 100;", 1, 0);
+        station("akite 2 40 100;", 1, 0);
+        station("kite`", 1, 4);
+        station("kite{", 1, 4);
+        station("kite 1/1 1;", 1, 6);
+        station("kite 1:1 1;", 1, 6);
         station("\tkite 2", 1, 0);
         station("kite\t2", 1, 4);
         station("kite\r2", 1, 4);
@@ -207,6 +232,9 @@ public final class InputTest {
         station("kite 4 9 9 9;", 1, 11);
         station("kite 4 9 9 gusts", 1, 11);
         station("kite 1 1 1;gust 1;", 1, 11);
+        station("kite 1 1 1;interval 1;", 1, 11);
+        station("kite 1 1 1;gusts 1;", 1, 19);
+        station("kite 1 1 1;gusts 1;wait 1;", 1, 19);
         station("kite 1 1 1;gusts ;", 1, 17);
         station("kite 1 1 1;gusts 31;", 2, 17);
         station("kite 1 1 1;gusts 30 31;", 2, 20);
@@ -286,6 +314,12 @@ public final class InputTest {
         script("repeat 6 ();", 2, 7);
         script("repeat 2();repeat 5 ( ) ;", 0, -1);
         script("repeat 2;", 1, 8);
+        script("repeat 2);", 1, 8);
+        script("repeat 2[", 1, 8);
+        script("repeat 2((", 1, 9);
+        script("repeat 2(wait 1;(", 1, 16);
+        script("repeat 2(wait 1;[", 1, 16);
+        script("repeat 2(wait 1;7", 1, 16);
         script("repeat (", 1, 7);
         script("repeat 2 (;);", 1, 10);
         script("repeat 2 ()", 1, 11);

@@ -15,6 +15,7 @@ public final class SampleTest {
         highestOfEqualOnes();
         layers();
         share();
+        oneSample();
         emptyArchive();
         Check.end();
     }
@@ -202,6 +203,20 @@ public final class SampleTest {
         x.undo();
         Check.same("43: all again after the undo", 1.0f, x.archivedShare());
         Check.same("44: gap", 0, x.gap());
+    }
+
+    private static void oneSample() {
+        KiteLogger x = Check.station("kite 1 999 9999;gusts 10;interval 1;");
+        Check.run(x, "out 50;launch;wait 1;in 50;archive;");
+        Check.same("43: one sample", 1.0f, x.archivedShare());
+        Check.same("42: one sample", 10.0, x.meanGust(0));
+        Check.same("40: one sample", 0, x.highestArchived());
+        Check.run(x, "out 15;launch;wait 3;in 50;archive;");
+        Check.same("40: the first one is the highest", 0, x.highestArchived());
+        Check.load(x, "kite 1 999 9999;gusts 12;interval 1;");
+        Check.run(x, "out 15;launch;wait 1;in 50;archive;");
+        Check.same("42: none of the older station's samples", 12.0, x.meanGust(0));
+        Check.same("39: none of the older station's samples", 1, x.archivedBetween(0, 600));
     }
 
     private static void emptyArchive() {

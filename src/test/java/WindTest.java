@@ -68,7 +68,9 @@ public final class WindTest {
         Check.same("13: mean of no wind", 0.0, x.meanWind());
         Check.same("12: greatest of no wind", 0, x.greatestWind());
         Check.same("11: no wind", -1, x.bufferedWind(0));
-        Check.run(x, "out 10;launch;wait 2;");
+        Check.run(x, "out 10;launch;wait 1;");
+        Check.same("13: mean of one wind", 11.0, x.meanWind());
+        x.passTicks(1);
         Check.same("10: two winds", 2, x.bufferSize());
         Check.same("13: mean", 11.5, x.meanWind());
         Check.same("11: third of two", -1, x.bufferedWind(2));
