@@ -380,7 +380,7 @@ public final class KiteLogger {
             return -1;
         }
         history.remember(station);
-        script.runBlock(station, 0, script.count, 0);
+        Script.runBlock(script, station, 0, script.count, 0);
         return script.executed;
     }
 
@@ -1329,19 +1329,19 @@ public final class KiteLogger {
         }
 
         // Answers false if a command was refused, so that the blocks around this one stop too.
-        boolean runBlock(Station station, int from, int to, int depth) {
+        private static boolean runBlock(Script script, Station station, int from, int to, int depth) {
             if (depth > SCRIPT_DEPTH) {
                 return false;
             }
             int index = from;
             for (int steps = 0; steps < SCRIPT_SIZE && index < to; steps++) {
-                int command = valueAt(commands, index);
-                int first = valueAt(firsts, index);
-                int second = valueAt(seconds, index);
-                int end = valueAt(ends, index);
+                int command = valueAt(script.commands, index);
+                int first = valueAt(script.firsts, index);
+                int second = valueAt(script.seconds, index);
+                int end = valueAt(script.ends, index);
                 if (command == REPEAT) {
                     for (int round = 0; round < first; round++) {
-                        if (!runBlock(station, index + 1, end, depth + 1)) {
+                        if (!runBlock(script, station, index + 1, end, depth + 1)) {
                             return false;
                         }
                     }
@@ -1349,7 +1349,7 @@ public final class KiteLogger {
                     return false;
                 } else {
                     station.perform(command, first, second);
-                    executed++;
+                    script.executed++;
                 }
                 index = end;
             }

@@ -351,7 +351,6 @@ public final class ChangeTest {
         x.undo();
         Check.same("6: one undo takes all of it back", 0, x.tick());
         Check.same("18: one undo takes all of it back", 0, x.tether());
-        // The third round asks for 750 meters.
         // The third round asks for 700 meters.
         Check.same("57: stops within a repeat", 4, Check.run(x, "repeat 5(out 200;out 50;);every 9;"));
         Check.same("18: tether", 500, x.tether());

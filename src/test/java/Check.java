@@ -26,13 +26,16 @@ final class Check {
     }
 
     static void refuses(String what, Class<? extends RuntimeException> due, Call call) {
-        Object answer;
+        same(what, due, answer(call));
+    }
+
+    /** What a call answers; the class of the exception if it throws one. */
+    static Object answer(Call call) {
         try {
-            answer = call.answer();
+            return call.answer();
         } catch (RuntimeException e) {
-            answer = e.getClass();
+            return e.getClass();
         }
-        same(what, due, answer);
     }
 
     /** Ends the test: with exit code 1 if an answer was wrong or none was looked at. */

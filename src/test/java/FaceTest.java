@@ -1,4 +1,5 @@
 import java.io.IOException;
+import java.lang.reflect.Array;
 import java.lang.reflect.Constructor;
 import java.lang.reflect.Field;
 import java.lang.reflect.Method;
@@ -6,7 +7,10 @@ import java.lang.reflect.Modifier;
 import java.nio.file.Files;
 import java.nio.file.Path;
 import java.util.ArrayList;
+import java.util.Collections;
+import java.util.IdentityHashMap;
 import java.util.List;
+import java.util.Set;
 import java.util.TreeSet;
 import java.util.regex.Matcher;
 import java.util.regex.Pattern;
@@ -20,12 +24,21 @@ public final class FaceTest {
     private static final int MOST_PARAMETERS = 7;
     private static final int MOST_CLASSES = 12;
     private static final int MOST_FIELDS = 20;
+    // Far below the room of a run, which may make many stations.
+    private static final int MOST_OBJECTS = 200;
+    private static final int MOST_ELEMENTS = 6000;
 
-    public static void main(String[] args) throws IOException {
+    private int objects = 0;
+    private int elements = 0;
+    private final Set<Object> seen = Collections.newSetFromMap(new IdentityHashMap<>());
+
+    public static void main(String[] args) throws IOException, IllegalAccessException {
         face();
         members();
         classesInside();
         text();
+        recursion();
+        room();
         Check.end();
     }
 
@@ -123,6 +136,71 @@ public final class FaceTest {
             if (lines[i].matches(" {4,8}\\}") && i - begun >= LONGEST_METHOD) {
                 boolean classEnd = lines[i].equals("    }") && i > 0 && lines[i - 1].equals("        }");
                 Check.same("rule 11: a long method that ends in line " + (i + 1), true, classEnd);
+            }
+        }
+    }
+
+    /** Rule 8: what calls itself is private and static; what calls one another is private. */
+    private static void recursion() throws IOException {
+        String source = Files.readString(Path.of("src/main/java/KiteLogger.java"));
+        Matcher matcher = Pattern.compile("(?m)^ {4,8}([a-z][\\w\\[\\] ]*) (\\w+)\\([^)]*\\) (?:throws [^{]*)?\\{$").matcher(source);
+        int found = 0;
+        while (matcher.find()) {
+            String body = source.substring(matcher.end(), source.indexOf("\n    }", matcher.end()));
+            int end = body.indexOf("\n        }\n\n");
+            body = matcher.group().startsWith("        ") && end >= 0 ? body.substring(0, end) : body;
+            if (Pattern.compile("(?<![.\\w])" + matcher.group(2) + "\\(").matcher(body).find()) {
+                found++;
+                Check.same("rule 8: " + matcher.group(2), "private static", matcher.group(1).replaceAll("( static)? \\w+$", "$1"));
+            }
+        }
+        Check.same("rule 8: only the blocks of a script", 1, found);
+    }
+
+    /** Rule 12: what the constructor makes is little, and the calls keep nothing more. */
+    private static void room() throws IllegalAccessException {
+        KiteLogger x = new KiteLogger();
+        FaceTest fresh = counted(x);
+        Check.same("rule 12: objects", true, fresh.objects <= MOST_OBJECTS);
+        Check.same("rule 12: elements", true, fresh.elements <= MOST_ELEMENTS);
+        for (int i = 0; i < 50; i++) {
+            Check.run(x, "repeat 5(out 50;launch;wait 30;in 50;archive;);");
+            x.passTicks(1);
+            x.saveSnapshot();
+            x.undo();
+            x.writeLogger();
+            Check.load(x, "kite 1 999 9999;gusts 10 11;interval 1;");
+        }
+        FaceTest used = counted(x);
+        Check.same("rule 12: objects after many calls", fresh.objects, used.objects);
+        Check.same("rule 12: elements after many calls", fresh.elements, used.elements);
+    }
+
+    private static FaceTest counted(KiteLogger x) throws IllegalAccessException {
+        FaceTest count = new FaceTest();
+        count.add(x);
+        return count;
+    }
+
+    private void add(Object object) throws IllegalAccessException {
+        if (object == null || !seen.add(object)) {
+            return;
+        }
+        objects++;
+        if (object.getClass().isArray()) {
+            elements += Array.getLength(object);
+            for (int i = 0; i < Array.getLength(object) && object instanceof Object[]; i++) {
+                add(Array.get(object, i));
+            }
+            return;
+        }
+        for (Field field : object.getClass().getDeclaredFields()) {
+            if (!Modifier.isStatic(field.getModifiers())) {
+                elements++;
+                field.setAccessible(true);
+                if (!field.getType().isPrimitive()) {
+                    add(field.get(object));
+                }
             }
         }
     }

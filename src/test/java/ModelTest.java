@@ -171,15 +171,7 @@ public final class ModelTest {
     }
 
     private void both(String what, Check.Call program, Check.Call due) {
-        Check.same(run + what, answer(due), answer(program));
-    }
-
-    private static Object answer(Check.Call call) {
-        try {
-            return call.answer();
-        } catch (RuntimeException e) {
-            return e.getClass();
-        }
+        Check.same(run + what, Check.answer(due), Check.answer(program));
     }
 
     private void compareState() {
